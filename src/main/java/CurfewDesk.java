@@ -341,7 +341,7 @@ public final class CurfewDesk {
 
     // ---- what would be
 
-    /** Returns behind how many half hours, 0 to 48, no order bars a person from a quarter; or -1. */
+    /** Returns behind how many half hours, 0 to 48, no order bars a person from it; or -1. */
     public int halfHoursUntilFree(int person, int quarter) throws IndexOutOfBoundsException {
         requirePerson(person);
         requireQuarter(quarter);
