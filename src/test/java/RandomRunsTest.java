@@ -25,8 +25,11 @@ public final class RandomRunsTest {
 
     private RandomRunsTest(long seed) {
         random = new Random(seed);
-        methods = CurfewDesk.class.getDeclaredMethods();
-        Arrays.sort(methods, Comparator.comparing(Method::getName));
+        // Those of the face alone, so that a private method more does not change the runs.
+        methods = Arrays.stream(CurfewDesk.class.getDeclaredMethods())
+                .filter(method -> Modifier.isPublic(method.getModifiers()))
+                .sorted(Comparator.comparing(Method::getName))
+                .toArray(Method[]::new);
         percentWild = seed % 3 == 0 ? 10 : 1;
         longestPass = seed % 2 == 0 ? 200 : 20;
     }
@@ -57,8 +60,7 @@ public final class RandomRunsTest {
         String wanted = OFTEN[random.nextInt(OFTEN.length)];
         while (true) {
             Method method = methods[random.nextInt(methods.length)];
-            boolean isPublic = Modifier.isPublic(method.getModifiers());
-            if (isPublic && (!often || method.getName().equals(wanted))) {
+            if (!often || method.getName().equals(wanted)) {
                 return method;
             }
         }
